@@ -27,6 +27,8 @@ public final class PromiseTest {
         runBreaksPages();
         runPasses();
         runDoesNotSettle();
+        runPrintsTheLongest();
+        runPrintsThreeDigits();
         aboutTells();
         pageTells();
         lineTells();
@@ -455,6 +457,46 @@ public final class PromiseTest {
         dueAbout(x, 11, 3, 1, 9, 2);
         checks.due("page that was told", "aaa/a10", Checks.lines(x, 4));
         checks.due("page of the entry ahead", 9, () -> x.page(2));
+    }
+
+    /** Six fields of 32 signs and 20 other signs: the most signs, then the most words. */
+    private static void runPrintsTheLongest() {
+        String[][] rows = {{"abcdefghijklmnopqrst", "aaaaaaa bbbbbbb ccccccc ddddddd "},
+            {"a b c d e f g h i j ", "a b c d e f g h i j k l m n o p "}};
+        for (String[] row : rows) {
+            for (int width : new int[] {20, 21, 40}) {
+                CatalogueSet x = withEntries(width, 30, "#0#0#0#0#0#0" + row[0], 8);
+                for (int e = 0; e < 8; e++) {
+                    Checks.field(x, e, 0, row[1]);
+                }
+                x.run();
+                String want = row[1].repeat(6) + row[0].trim();
+                checks.due("the longest text", want, Checks.lines(x, 0).replace('/', ' '));
+                checks.due("the last entry's", want, Checks.lines(x, 7).replace('/', ' '));
+            }
+        }
+    }
+
+    private static void runPrintsThreeDigits() {
+        CatalogueSet x = new CatalogueSet(6, 3);
+        Checks.template(x, "#0 #0 #0 #0 #0 #0");
+        Checks.template(x, "#0 #1");
+        Checks.template(x, "@7");
+        for (int e = 0; e < 8; e++) {
+            x.entry(e < 6 ? 0 : e - 5);
+            Checks.field(x, e, 0, e < 6 ? "abc abc abc abc abc abc abc abc" : "");
+        }
+        boolean[] seen = new boolean[1000];
+        for (int n = 0; n <= 16; n++) {
+            Checks.field(x, 6, 0, "abc ".repeat(Math.min(n, 8)));
+            Checks.field(x, 6, 1, "abc ".repeat(Math.max(n - 8, 0)));
+            x.run();
+            seen[x.page(7)] = true;
+            checks.due("a page as a number", String.valueOf(x.page(7)), Checks.lines(x, 7));
+        }
+        for (int page = 99; page <= 101; page++) {
+            checks.due("whether page " + page + " came", true, seen[page]);
+        }
     }
 
     // ---- promise 10
