@@ -7,9 +7,27 @@ final class Checks {
     private final String where;
     private int wrong = 0;
     private int asked = 0;
+    private String sentence = "";
+    private int sentences = 0;
+    private int askedAhead = 0;
 
     Checks(String where) {
         this.where = where;
+    }
+
+    /** Names the promise and the sentence of the document that the checks from here on are of. */
+    void sentence(String promise, String text) {
+        endSentence();
+        sentence = promise + ", '" + text + "': ";
+        sentences++;
+    }
+
+    private void endSentence() {
+        if (sentences > 0 && asked == askedAhead) {
+            wrong++;
+            System.out.println(where + ": " + sentence + "has no check");
+        }
+        askedAhead = asked;
     }
 
     /** An answer as a text; for an exception its simple name. */
@@ -26,7 +44,7 @@ final class Checks {
         if (!want.equals(got)) {
             wrong++;
             if (wrong <= 50) {
-                System.out.println(where + ": " + what + " answered " + got + ", due is " + want);
+                System.out.println(where + ": " + sentence + what + " answered " + got + ", due is " + want);
             }
         }
     }
@@ -47,11 +65,66 @@ final class Checks {
         due(what, "IllegalArgumentException", told(call));
     }
 
+    /** The whole index of a field, and NONE behind it. */
+    void dueIndex(CatalogueSet x, int f, int... want) {
+        for (int k = 0; k < want.length; k++) {
+            int place = k;
+            due("index(" + f + ", " + k + ")", want[k], () -> x.index(f, place));
+        }
+        due("index behind the last", -1, () -> x.index(f, want.length));
+    }
+
+    /** Pages, passes, whether they settled, squares of lines, squares of pages. */
+    void dueAbout(CatalogueSet x, int... want) {
+        for (int what = 0; what < want.length; what++) {
+            int w = what;
+            due("about(" + what + ")", want[what], () -> x.about(w));
+        }
+    }
+
+    /** The pages of entries 0, 1, .. */
+    void duePages(CatalogueSet x, int... want) {
+        for (int e = 0; e < want.length; e++) {
+            int entry = e;
+            due("page(" + e + ")", want[e], () -> x.page(entry));
+        }
+    }
+
     void end() {
-        System.out.println(where + ": " + asked + " asked, " + wrong + " wrong");
+        endSentence();
+        String ofSentences = sentences == 0 ? "" : sentences + " sentences, ";
+        System.out.println(where + ": " + ofSentences + asked + " asked, " + wrong + " wrong");
         if (wrong != 0) {
             System.exit(1);
         }
+    }
+
+    /** An object with one template and so many entries by it. */
+    static CatalogueSet withEntries(int width, int height, String template, int entries) {
+        CatalogueSet x = new CatalogueSet(width, height);
+        template(x, template);
+        for (int e = 0; e < entries; e++) {
+            x.entry(0);
+        }
+        return x;
+    }
+
+    /** An object with an entry for each text, which is its field 0 and all that it prints. */
+    static CatalogueSet withTexts(int width, int height, String... texts) {
+        CatalogueSet x = withEntries(width, height, "#0", texts.length);
+        for (int e = 0; e < texts.length; e++) {
+            field(x, e, 0, texts[e]);
+        }
+        return x;
+    }
+
+    /** An object with an entry without lines for each picture. */
+    static CatalogueSet withPictures(int height, int... pictures) {
+        CatalogueSet x = withEntries(6, height, "", pictures.length);
+        for (int e = 0; e < pictures.length; e++) {
+            x.picture(e, pictures[e]);
+        }
+        return x;
     }
 
     /** Puts a text behind the pad, up to eight signs a call. */
@@ -61,7 +134,8 @@ final class Checks {
         }
     }
 
-    private static int packed(String text, int from) {
+    /** Up to four signs of a text, from a place on, as unit() takes them. */
+    static int packed(String text, int from) {
         int word = 0;
         for (int i = 0; i < 4 && from + i < text.length(); i++) {
             word |= text.charAt(from + i) << (8 * i);
@@ -87,7 +161,8 @@ final class Checks {
     /** A line of the latest run as a text. */
     static String line(CatalogueSet x, int entry, int l) {
         StringBuilder text = new StringBuilder();
-        for (int i = 0; i < x.sign(entry, l, -1); i++) {
+        int signs = x.sign(entry, l, -1);
+        for (int i = 0; i < signs; i++) {
             text.append((char) x.sign(entry, l, i));
         }
         return text.toString();
@@ -96,7 +171,8 @@ final class Checks {
     /** All lines of an entry in the latest run, with "/" between them. */
     static String lines(CatalogueSet x, int entry) {
         StringBuilder text = new StringBuilder();
-        for (int l = 0; l < x.sign(entry, -1, -1); l++) {
+        int lines = x.sign(entry, -1, -1);
+        for (int l = 0; l < lines; l++) {
             text.append(l == 0 ? "" : "/").append(line(x, entry, l));
         }
         return text.toString();

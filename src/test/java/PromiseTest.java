@@ -38,15 +38,6 @@ public final class PromiseTest {
         checks.end();
     }
 
-    private static CatalogueSet withEntries(int width, int height, String template, int entries) {
-        CatalogueSet x = new CatalogueSet(width, height);
-        Checks.template(x, template);
-        for (int e = 0; e < entries; e++) {
-            x.entry(0);
-        }
-        return x;
-    }
-
     // ---- promise 1
 
     private static void newObject() {
@@ -68,7 +59,7 @@ public final class PromiseTest {
         int[][] sizes = {{LOW, LOW, 6, 3}, {5, 2, 6, 3}, {6, 3, 6, 3}, {7, 4, 7, 4}, {39, 29, 39, 29},
             {40, 30, 40, 30}, {41, 31, 40, 30}, {HIGH, HIGH, 40, 30}};
         for (int[] size : sizes) {
-            CatalogueSet x = withEntries(size[0], size[1], "#0#1", 1);
+            CatalogueSet x = Checks.withEntries(size[0], size[1], "#0#1", 1);
             Checks.field(x, 0, 0, LETTERS_32.substring(0, 6));
             Checks.field(x, 0, 1, (LETTERS_32 + LETTERS_32).substring(0, Math.min(32, size[2] - 6)));
             if (size[2] == 40) {
@@ -194,7 +185,7 @@ public final class PromiseTest {
     // ---- promise 5
 
     private static void fieldTakesPad() {
-        CatalogueSet x = withEntries(20, 5, "#3 #0", 2);
+        CatalogueSet x = Checks.withEntries(20, 5, "#3 #0", 2);
         checks.due("field", 3, () -> Checks.field(x, 1, 3, "abz"));
         checks.due("pad behind a field", 0, () -> x.count(0));
         checks.due("field with blanks", 4, () -> Checks.field(x, 1, 0, " x  "));
@@ -217,7 +208,7 @@ public final class PromiseTest {
         checks.outOfBounds("no field's text for no field", () -> x.field(0, 4));
         checks.due("pad behind no field's text", 3, () -> x.count(0));
         for (String text : new String[] {"a`", "a{", "#0", "a!", "1", "[", "~"}) {
-            CatalogueSet y = withEntries(20, 5, "#0", 1);
+            CatalogueSet y = Checks.withEntries(20, 5, "#0", 1);
             Checks.field(y, 0, 0, "old");
             checks.badArgument("field " + text, () -> Checks.field(y, 0, 0, text));
             y.run();
@@ -228,7 +219,7 @@ public final class PromiseTest {
     // ---- promise 6
 
     private static void claimIsTold() {
-        CatalogueSet x = withEntries(20, 5, "a", 3);
+        CatalogueSet x = Checks.withEntries(20, 5, "a", 3);
         checks.due("an untold claim", -1, () -> x.claim(1, 0, 0));
         checks.due("a claim without source", 0, () -> x.claim(1, 0, 1));
         checks.due("a claim with a source", 1, () -> x.claim(1, 0, 1));
@@ -250,7 +241,7 @@ public final class PromiseTest {
     // ---- promise 7
 
     private static void pictureIsTold() {
-        CatalogueSet x = withEntries(20, 5, "a", 2);
+        CatalogueSet x = Checks.withEntries(20, 5, "a", 2);
         checks.due("no picture", 0, () -> x.picture(1, 30));
         checks.due("the highest picture", 30, () -> x.picture(1, 4));
         checks.due("the other entry's picture", 0, () -> x.picture(0, 0));
@@ -267,42 +258,34 @@ public final class PromiseTest {
     // ---- promise 8
 
     private static void orderTakesPad() {
-        CatalogueSet x = withEntries(20, 5, "#0", 3);
+        CatalogueSet x = Checks.withEntries(20, 5, "#0", 3);
         Checks.field(x, 0, 0, "a");
         Checks.field(x, 1, 0, "b");
         Checks.field(x, 2, 0, "c");
         checks.due("order", 2, () -> Checks.order(x, "cb"));
         checks.due("pad behind an order", 0, () -> x.count(0));
-        dueIndex(x, 0, 2, 1, 0);
+        checks.dueIndex(x, 0, 2, 1, 0);
         for (String text : new String[] {"bb", "bcb", " ", "b c", "B", "b`", "b{", "1", "a#"}) {
             Checks.put(x, text);
             checks.badArgument("order " + text, () -> x.order());
             checks.due("pad behind no order", text.length(), () -> x.count(0));
-            dueIndex(x, 0, 2, 1, 0);
+            checks.dueIndex(x, 0, 2, 1, 0);
             // A wrong template is the way to empty the pad.
             Checks.put(x, "A");
             x.template();
         }
         checks.due("a whole order", 26, () -> Checks.order(x, "zyxwvutsrqponmlkjihgfedcba"));
-        dueIndex(x, 0, 2, 1, 0);
+        checks.dueIndex(x, 0, 2, 1, 0);
         checks.due("an empty order", 0, () -> x.order());
-        dueIndex(x, 0, 0, 1, 2);
+        checks.dueIndex(x, 0, 0, 1, 2);
         checks.due("another order", 1, () -> Checks.order(x, "b"));
-        dueIndex(x, 0, 1, 0, 2);
-    }
-
-    private static void dueIndex(CatalogueSet x, int f, int... want) {
-        for (int k = 0; k < want.length; k++) {
-            int place = k;
-            checks.due("index(" + f + ", " + k + ")", want[k], () -> x.index(f, place));
-        }
-        checks.due("index behind the last", -1, () -> x.index(f, want.length));
+        checks.dueIndex(x, 0, 1, 0, 2);
     }
 
     // ---- promise 9
 
     private static void runRefuses() {
-        CatalogueSet x = withEntries(6, 5, "#0", 4);
+        CatalogueSet x = Checks.withEntries(6, 5, "#0", 4);
         Checks.field(x, 1, 0, "ab");
         checks.due("run", 1, () -> x.run());
         Checks.field(x, 2, 0, "toolong");
@@ -364,7 +347,7 @@ public final class PromiseTest {
             {" a  b ", "", "", "a b"}, {"a#0b", " ", "", "a b"}, {"[#0 ][#1]", "x", "y", "x y"},
             {"#0#0#1#1", "x", " y", "xx y y"}, {"[#1]#0[#0]", "q", "", "qq"}};
         for (Object[] row : rows) {
-            CatalogueSet x = withEntries(40, 5, (String) row[0], 1);
+            CatalogueSet x = Checks.withEntries(40, 5, (String) row[0], 1);
             Checks.field(x, 0, 0, (String) row[1]);
             Checks.field(x, 0, 1, (String) row[2]);
             x.run();
@@ -379,7 +362,7 @@ public final class PromiseTest {
             {6, "", "", 0}, {6, "  ", "", 0}, {6, "aaaaaa bbbbbb", "aaaaaa/bbbbbb", 0},
             {7, "aaa bbb c dd", "aaa bbb/c dd", 0}, {10, "a a a a a a a a", "a a a a a/a a a", 1}};
         for (Object[] row : rows) {
-            CatalogueSet x = withEntries((Integer) row[0], 30, "#0", 1);
+            CatalogueSet x = Checks.withEntries((Integer) row[0], 30, "#0", 1);
             Checks.field(x, 0, 0, (String) row[1]);
             x.run();
             checks.due("lines of " + row[1], row[2], Checks.lines(x, 0));
@@ -394,7 +377,7 @@ public final class PromiseTest {
             {{6}, {3, 3, 6}, {1, 1, 2}, {0}}, {{6}, {1, 0, 1}, {1, -1, 1}, {0}}, {{4}, {4, 4}, {1, 2}, {0}},
             {{3}, {2, 2}, {1, 2}, {1}}, {{5}, {0, 0}, {-1, -1}, {0}}};
         for (int[][] row : rows) {
-            CatalogueSet x = withEntries(6, row[0][0], "", row[1].length);
+            CatalogueSet x = Checks.withEntries(6, row[0][0], "", row[1].length);
             for (int e = 0; e < row[1].length; e++) {
                 x.picture(e, row[1][e]);
             }
@@ -406,7 +389,7 @@ public final class PromiseTest {
             checks.due("squares of pages", row[3][0], () -> x.about(4));
         }
         // Two first lines stay with the picture, the third may leave it.
-        CatalogueSet x = withEntries(6, 4, "#0", 2);
+        CatalogueSet x = Checks.withEntries(6, 4, "#0", 2);
         Checks.field(x, 0, 0, "aaaaaa bbbbbb cccccc");
         x.picture(0, 2);
         Checks.field(x, 1, 0, "dddddd");
@@ -417,12 +400,12 @@ public final class PromiseTest {
     }
 
     private static void runPasses() {
-        CatalogueSet x = withEntries(10, 3, "p@0 @1 @7", 2);
+        CatalogueSet x = Checks.withEntries(10, 3, "p@0 @1 @7", 2);
         checks.due("run", 1, () -> x.run());
         checks.due("pages are put in", "p1 1 0", Checks.lines(x, 0));
         checks.due("passes", 2, () -> x.about(1));
         checks.due("settled", 1, () -> x.about(2));
-        CatalogueSet y = withEntries(10, 3, "@0", 0);
+        CatalogueSet y = Checks.withEntries(10, 3, "@0", 0);
         checks.due("run of nothing", 0, () -> y.run());
         checks.due("passes of nothing", 1, () -> y.about(1));
         checks.due("settled nothing", 1, () -> y.about(2));
@@ -448,13 +431,13 @@ public final class PromiseTest {
             x.picture(x.entry(row[0]), row[1]);
         }
         checks.due("run", 11, () -> x.run());
-        dueAbout(x, 11, 5, 0, 0, 2);
+        checks.dueAbout(x, 11, 5, 0, 0, 2);
         checks.due("page in the fifth pass", 10, () -> x.page(3));
         checks.due("page told to the fifth pass", "aaa a9", Checks.lines(x, 4));
         // With a lower picture two lines of it leave room for entry 3, too.
         x.picture(4, 2);
         checks.due("run that settles", 11, () -> x.run());
-        dueAbout(x, 11, 3, 1, 9, 2);
+        checks.dueAbout(x, 11, 3, 1, 9, 2);
         checks.due("page that was told", "aaa/a10", Checks.lines(x, 4));
         checks.due("page of the entry ahead", 9, () -> x.page(2));
     }
@@ -465,7 +448,7 @@ public final class PromiseTest {
             {"a b c d e f g h i j ", "a b c d e f g h i j k l m n o p "}};
         for (String[] row : rows) {
             for (int width : new int[] {20, 21, 40}) {
-                CatalogueSet x = withEntries(width, 30, "#0#0#0#0#0#0" + row[0], 8);
+                CatalogueSet x = Checks.withEntries(width, 30, "#0#0#0#0#0#0" + row[0], 8);
                 for (int e = 0; e < 8; e++) {
                     Checks.field(x, e, 0, row[1]);
                 }
@@ -502,7 +485,7 @@ public final class PromiseTest {
     // ---- promise 10
 
     private static void aboutTells() {
-        CatalogueSet x = withEntries(6, 3, "#0", 2);
+        CatalogueSet x = Checks.withEntries(6, 3, "#0", 2);
         checks.badState("about ahead of a run", () -> x.about(4));
         checks.outOfBounds("about(5) ahead of a run", () -> x.about(5));
         checks.outOfBounds("about(-1) ahead of a run", () -> x.about(-1));
@@ -513,31 +496,24 @@ public final class PromiseTest {
         Checks.field(x, 0, 0, "aaa bb cc ddddd");
         Checks.field(x, 1, 0, "aaa b aaa zzzzzz");
         x.run();
-        dueAbout(x, 2, 2, 1, 20, 0);
+        checks.dueAbout(x, 2, 2, 1, 20, 0);
         x.picture(1, 1);
         x.run();
-        dueAbout(x, 3, 2, 1, 20, 0);
+        checks.dueAbout(x, 3, 2, 1, 20, 0);
         x.picture(0, 1);
         x.run();
-        dueAbout(x, 4, 2, 1, 20, 4);
+        checks.dueAbout(x, 4, 2, 1, 20, 4);
         x.picture(0, 2);
         x.run();
-        dueAbout(x, 4, 2, 1, 20, 4);
+        checks.dueAbout(x, 4, 2, 1, 20, 4);
         checks.outOfBounds("about(5)", () -> x.about(5));
         checks.outOfBounds("about(-1)", () -> x.about(-1));
-    }
-
-    private static void dueAbout(CatalogueSet x, int... want) {
-        for (int what = 0; what < want.length; what++) {
-            int w = what;
-            checks.due("about(" + what + ")", want[what], () -> x.about(w));
-        }
     }
 
     // ---- promise 11
 
     private static void pageTells() {
-        CatalogueSet x = withEntries(6, 3, "#0", 2);
+        CatalogueSet x = Checks.withEntries(6, 3, "#0", 2);
         checks.badState("page ahead of a run", () -> x.page(1));
         checks.outOfBounds("page of no entry ahead of a run", () -> x.page(2));
         x.picture(1, 3);
@@ -559,7 +535,7 @@ public final class PromiseTest {
     // ---- promise 12
 
     private static void lineTells() {
-        CatalogueSet x = withEntries(6, 4, "#0", 2);
+        CatalogueSet x = Checks.withEntries(6, 4, "#0", 2);
         checks.badState("line ahead of a run", () -> x.line(1, 3, 1));
         checks.outOfBounds("no line ahead of a run", () -> x.line(1, 4, 1));
         checks.outOfBounds("no answer ahead of a run", () -> x.line(1, 0, 2));
@@ -588,7 +564,7 @@ public final class PromiseTest {
     // ---- promise 13
 
     private static void signTells() {
-        CatalogueSet x = withEntries(6, 4, "#0", 2);
+        CatalogueSet x = Checks.withEntries(6, 4, "#0", 2);
         checks.badState("sign ahead of a run", () -> x.sign(0, 0, 0));
         checks.badState("sign ahead of a run", () -> x.sign(1, -1, -1));
         checks.outOfBounds("sign of no entry ahead of a run", () -> x.sign(2, 0, 0));
@@ -623,21 +599,21 @@ public final class PromiseTest {
     // ---- promise 14
 
     private static void indexSorts() {
-        CatalogueSet x = withEntries(6, 3, "#0", 7);
-        dueIndex(x, 0);
+        CatalogueSet x = Checks.withEntries(6, 3, "#0", 7);
+        checks.dueIndex(x, 0);
         String[] texts = {"b", "ab", "a", "a b", "", "ab", " z"};
         for (int e = 0; e < texts.length; e++) {
             Checks.field(x, e, 2, texts[e]);
         }
-        dueIndex(x, 2, 6, 2, 3, 1, 5, 0);
-        dueIndex(x, 0);
-        dueIndex(x, 3);
+        checks.dueIndex(x, 2, 6, 2, 3, 1, 5, 0);
+        checks.dueIndex(x, 0);
+        checks.dueIndex(x, 3);
         Checks.order(x, "zb");
-        dueIndex(x, 2, 6, 0, 2, 3, 1, 5);
+        checks.dueIndex(x, 2, 6, 0, 2, 3, 1, 5);
         Checks.field(x, 4, 2, "z");
-        dueIndex(x, 2, 6, 4, 0, 2, 3, 1, 5);
+        checks.dueIndex(x, 2, 6, 4, 0, 2, 3, 1, 5);
         x.field(6, 2);
-        dueIndex(x, 2, 4, 0, 2, 3, 1, 5);
+        checks.dueIndex(x, 2, 4, 0, 2, 3, 1, 5);
         checks.due("index far behind the last", -1, () -> x.index(2, HIGH));
         int[][] nowhere = {{-1, 0}, {4, 0}, {0, -1}, {LOW, 0}, {HIGH, 0}, {2, LOW}};
         for (int[] at : nowhere) {
@@ -648,7 +624,7 @@ public final class PromiseTest {
     // ---- promise 15
 
     private static void countTells() {
-        CatalogueSet x = withEntries(6, 3, "#0", 2);
+        CatalogueSet x = Checks.withEntries(6, 3, "#0", 2);
         Checks.template(x, "a");
         Checks.put(x, "abcd");
         checks.due("signs", 4, () -> x.count(0));
