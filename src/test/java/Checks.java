@@ -4,15 +4,30 @@ final class Checks {
         int answer();
     }
 
+    // Of what is wrong, so much is shown; with sentences, so much of each.
+    private static final int SHOWN_MOST = 12;
+
     private final String where;
     private int wrong = 0;
     private int asked = 0;
     private String sentence = "";
     private int sentences = 0;
     private int askedAhead = 0;
+    private int shown = 0;
 
     Checks(String where) {
         this.where = where;
+    }
+
+    /** Each test on its own: one that is ended by an exception does not end the others. */
+    void each(Runnable... tests) {
+        for (Runnable test : tests) {
+            try {
+                test.run();
+            } catch (RuntimeException e) {
+                due("a call ahead of the next check", "an answer", e.toString());
+            }
+        }
     }
 
     /** Names the promise and the sentence of the document that the checks from here on are of. */
@@ -20,6 +35,7 @@ final class Checks {
         endSentence();
         sentence = promise + ", '" + text + "': ";
         sentences++;
+        shown = 0;
     }
 
     private void endSentence() {
@@ -43,7 +59,8 @@ final class Checks {
         asked++;
         if (!want.equals(got)) {
             wrong++;
-            if (wrong <= 50) {
+            shown++;
+            if (shown <= SHOWN_MOST) {
                 System.out.println(where + ": " + sentence + what + " answered " + got + ", due is " + want);
             }
         }

@@ -11,27 +11,15 @@ public final class GivingBoundaryTest {
 
     public static void main(String[] args) {
         checks = new Checks("GivingBoundaryTest");
-        newObjectHasNothingElse();
-        unitOrder();
-        unitNothing();
-        unitTooMany();
-        unitWrongSign();
-        templateNumber();
-        templateWrongPlace();
-        templateWrongEnd();
-        templateEmptiesPad();
-        templateSeventh();
-        entryNumber();
-        entryNoTemplate();
-        entryNinth();
-        fieldTaken();
-        fieldRefused();
-        claimTold();
-        claimRefused();
-        pictureTold();
-        pictureRefused();
-        orderTaken();
-        orderRefused();
+        checks.each(
+            GivingBoundaryTest::newObjectHasNothingElse, GivingBoundaryTest::unitOrder,
+            GivingBoundaryTest::unitNothing, GivingBoundaryTest::unitTooMany, GivingBoundaryTest::unitWrongSign,
+            GivingBoundaryTest::templateNumber, GivingBoundaryTest::templateWrongPlace,
+            GivingBoundaryTest::templateWrongEnd, GivingBoundaryTest::templateEmptiesPad,
+            GivingBoundaryTest::templateSeventh, GivingBoundaryTest::entryNumber, GivingBoundaryTest::entryNoTemplate,
+            GivingBoundaryTest::entryNinth, GivingBoundaryTest::fieldTaken, GivingBoundaryTest::fieldRefused,
+            GivingBoundaryTest::claimTold, GivingBoundaryTest::claimRefused, GivingBoundaryTest::pictureTold,
+            GivingBoundaryTest::pictureRefused, GivingBoundaryTest::orderTaken, GivingBoundaryTest::orderRefused);
         checks.end();
     }
 

@@ -12,8 +12,8 @@ public final class RefusalBoundaryTest {
 
     public static void main(String[] args) {
         checks = new Checks("RefusalBoundaryTest");
-        exceptionsChangeNothing();
-        refusedRunChangesNothing();
+        checks.each(
+            RefusalBoundaryTest::exceptionsChangeNothing, RefusalBoundaryTest::refusedRunChangesNothing);
         checks.end();
     }
 

@@ -7,28 +7,15 @@ public final class SettingBoundaryTest {
 
     public static void main(String[] args) {
         checks = new Checks("SettingBoundaryTest");
-        runPages();
-        runUnsourced();
-        runLongWord();
-        runHighUnit();
-        runFirstSuchOne();
-        aboutLatest();
-        aboutFigures();
-        aboutNoneOfThese();
-        aboutNoRun();
-        pageOfFirstUnit();
-        pageNoEntry();
-        pageNoRun();
-        lineOfPage();
-        lineNowhere();
-        lineNoRun();
-        signOfLine();
-        signNowhere();
-        signNoRun();
-        indexPlaces();
-        indexNowhere();
-        countFigures();
-        countNoneOfThese();
+        checks.each(
+            SettingBoundaryTest::runPages, SettingBoundaryTest::runUnsourced, SettingBoundaryTest::runLongWord,
+            SettingBoundaryTest::runHighUnit, SettingBoundaryTest::runFirstSuchOne, SettingBoundaryTest::aboutLatest,
+            SettingBoundaryTest::aboutFigures, SettingBoundaryTest::aboutNoneOfThese, SettingBoundaryTest::aboutNoRun,
+            SettingBoundaryTest::pageOfFirstUnit, SettingBoundaryTest::pageNoEntry, SettingBoundaryTest::pageNoRun,
+            SettingBoundaryTest::lineOfPage, SettingBoundaryTest::lineNowhere, SettingBoundaryTest::lineNoRun,
+            SettingBoundaryTest::signOfLine, SettingBoundaryTest::signNowhere, SettingBoundaryTest::signNoRun,
+            SettingBoundaryTest::indexPlaces, SettingBoundaryTest::indexNowhere, SettingBoundaryTest::countFigures,
+            SettingBoundaryTest::countNoneOfThese);
         checks.end();
     }
 
@@ -282,6 +269,7 @@ public final class SettingBoundaryTest {
         for (int entry : wrong) {
             checks.outOfBounds("page(" + entry + ") ahead of a run", () -> x.page(entry));
         }
+        checks.outOfBounds("page(1) ahead of a run", () -> x.page(1));
         x.run();
         checks.due("page of the last entry", 1, () -> x.page(0));
         checks.outOfBounds("page of an entry that is not there", () -> x.page(1));
@@ -435,6 +423,8 @@ public final class SettingBoundaryTest {
     private static void signNowhere() {
         checks.sentence("Promise 13", "IndexOutOfBoundsException: entry, line, place");
         CatalogueSet x = withThreeTexts();
+        checks.outOfBounds("lines of no entry ahead of a run", () -> x.sign(3, -1, -1));
+        checks.outOfBounds("a sign of no entry ahead of a run", () -> x.sign(-1, 0, 0));
         x.run();
         for (int entry : new int[] {LOW, -1, 3, 8, 256, HIGH}) {
             checks.outOfBounds("lines of entry " + entry, () -> x.sign(entry, -1, -1));

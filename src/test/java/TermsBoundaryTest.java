@@ -8,29 +8,17 @@ public final class TermsBoundaryTest {
 
     public static void main(String[] args) {
         checks = new Checks("TermsBoundaryTest");
-        calls512();
-        pageSizes();
-        padLengthAndSigns();
-        templateSigns();
-        partsWithEmptyFields();
-        templateSixMarks();
-        templateEmpty();
-        fieldTextSigns();
-        entriesAtFirst();
-        printedWhole();
-        wordsBetweenBlanks();
-        linesAtMostTheWidth();
-        linesLeastSquares();
-        linesFewestWords();
-        unitsOfEntries();
-        pagesAtMostTheHeight();
-        pagesLeastSquares();
-        pagesFewestUnits();
-        passesToldPages();
-        passesEnd();
-        indexOfField();
-        indexComparesSigns();
-        exceptionsInOrder();
+        checks.each(
+            TermsBoundaryTest::calls512, TermsBoundaryTest::pageSizes, TermsBoundaryTest::padLengthAndSigns,
+            TermsBoundaryTest::templateSigns, TermsBoundaryTest::partsWithEmptyFields,
+            TermsBoundaryTest::templateSixMarks, TermsBoundaryTest::templateEmpty, TermsBoundaryTest::fieldTextSigns,
+            TermsBoundaryTest::entriesAtFirst, TermsBoundaryTest::printedWhole, TermsBoundaryTest::wordsBetweenBlanks,
+            TermsBoundaryTest::linesAtMostTheWidth, TermsBoundaryTest::linesLeastSquares,
+            TermsBoundaryTest::linesFewestWords, TermsBoundaryTest::unitsOfEntries,
+            TermsBoundaryTest::pagesAtMostTheHeight, TermsBoundaryTest::pagesLeastSquares,
+            TermsBoundaryTest::pagesFewestUnits, TermsBoundaryTest::passesToldPages, TermsBoundaryTest::passesEnd,
+            TermsBoundaryTest::indexOfField, TermsBoundaryTest::indexComparesSigns,
+            TermsBoundaryTest::exceptionsInOrder);
         checks.end();
     }
 
@@ -558,16 +546,16 @@ public final class TermsBoundaryTest {
     private static void indexComparesSigns() {
         checks.sentence("Terms, The INDEX", "signs are compared one by one, \" \" first, then the letters of the ORDER "
             + "as told, then all others by the alphabet; a beginning comes first.");
-        CatalogueSet x = Checks.withTexts(6, 3, "z", "a", " ", "ab", "aa", "a ", "m", "  ");
-        checks.dueIndex(x, 0, 2, 7, 1, 5, 4, 3, 6, 0);
+        CatalogueSet x = Checks.withTexts(6, 3, "z", "ab", "  ", "aa", "a ", "a", "m", " ");
+        checks.dueIndex(x, 0, 7, 2, 5, 4, 3, 1, 6, 0);
         Checks.order(x, "z");
-        checks.dueIndex(x, 0, 2, 7, 0, 1, 5, 4, 3, 6);
+        checks.dueIndex(x, 0, 7, 2, 0, 5, 4, 3, 1, 6);
         Checks.order(x, "mb");
-        checks.dueIndex(x, 0, 2, 7, 6, 1, 5, 3, 4, 0);
+        checks.dueIndex(x, 0, 7, 2, 6, 5, 4, 1, 3, 0);
         Checks.order(x, "zyxwvutsrqponmlkjihgfedcba");
-        checks.dueIndex(x, 0, 2, 7, 0, 6, 1, 5, 3, 4);
+        checks.dueIndex(x, 0, 7, 2, 0, 6, 5, 4, 1, 3);
         x.order();
-        checks.dueIndex(x, 0, 2, 7, 1, 5, 4, 3, 6, 0);
+        checks.dueIndex(x, 0, 7, 2, 5, 4, 3, 1, 6, 0);
     }
 
     // ---- exceptions
