@@ -30,6 +30,8 @@ public final class CatalogueSet {
     private static final int PRINTED_MOST = MARKS_MOST * PAD_MOST + PAD_MOST - 2 * MARKS_MOST;
     private static final int WORDS_MOST = (PRINTED_MOST + 1) / 2;
     private static final int UNITS_MOST = ENTRIES_MOST * WORDS_MOST;
+    // No row leaves as much as the greatest width, which is above the greatest height.
+    private static final int SQUARES_BEYOND = UNITS_MOST * WIDTH_MOST * WIDTH_MOST;
 
     private static final int UNSOURCED = -1;
     private static final int UNSETTABLE = -101;
@@ -56,7 +58,7 @@ public final class CatalogueSet {
         }
         entries = new Entry[ENTRIES_MOST];
         for (int e = 0; e < ENTRIES_MOST; e++) {
-            entries[e] = new Entry(templates[0]);
+            entries[e] = new Entry();
         }
         press = new Press(Math.max(WIDTH_LEAST, Math.min(WIDTH_MOST, width)), this.height);
         latest = new Setting();
@@ -426,11 +428,10 @@ public final class CatalogueSet {
     private static final class Entry {
         private final Signs[] texts = new Signs[FIELDS];
         private final int[] claims = new int[CLAIMS];
-        private Signs model;
+        private Signs model = new Signs(0);
         private int pictureHeight;
 
-        Entry(Signs model) {
-            this.model = model;
+        Entry() {
             for (int f = 0; f < FIELDS; f++) {
                 texts[f] = new Signs(PAD_MOST);
             }
@@ -592,7 +593,7 @@ public final class CatalogueSet {
         // Shorter first rows are tried first and only a smaller sum displaces them: so of
         // equal ways the one with the fewest items in the first row, and so on, stays.
         private void solveFrom(int first) {
-            least[first] = Integer.MAX_VALUE;
+            least[first] = SQUARES_BEYOND;
             ends[first] = first + 1;
             int filled = sizes[first];
             for (int end = first + 1; end <= items && filled <= room; end++) {

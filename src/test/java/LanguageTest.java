@@ -7,11 +7,14 @@ import java.lang.reflect.Method;
 import java.lang.reflect.Modifier;
 import java.nio.file.Files;
 import java.nio.file.Path;
+import java.util.ArrayList;
 import java.util.Arrays;
 import java.util.IdentityHashMap;
+import java.util.List;
 import java.util.Map;
 import java.util.Set;
 import java.util.TreeSet;
+import java.util.regex.Matcher;
 import java.util.regex.Pattern;
 
 /** The public face, some rules of the language that a test can see, and the room that is used. */
@@ -38,6 +41,8 @@ public final class LanguageTest {
         faceIsTheDocuments();
         privateNamesAreOther();
         sourceKeepsToTheLanguage();
+        libraryIsTheListed();
+        newPartsAreHeldOnce();
         roomIsSmall();
         checks.end();
     }
@@ -97,9 +102,14 @@ public final class LanguageTest {
         }
     }
 
-    private static void sourceKeepsToTheLanguage() throws IOException {
-        String source = Files.readString(Path.of("src/main/java/CatalogueSet.java"))
+    /** The source without comments and the texts of exceptions. */
+    private static String bareSource() throws IOException {
+        return Files.readString(Path.of("src/main/java/CatalogueSet.java"))
             .replaceAll("(?s)/\\*.*?\\*/", "").replaceAll("//[^\n]*", "").replaceAll("\"[^\"\n]*\"", "\"\"");
+    }
+
+    private static void sourceKeepsToTheLanguage() throws IOException {
+        String source = bareSource();
         String[] ruledOut = {"\\btry\\b", "\\bcatch\\b", "\\bfinally\\b", "->", "::", "\\bsynchronized\\b",
             "\\bassert\\b", "\\bimport\\b", "\\bpackage\\b", "\\bSystem\\.", "\\bstatic\\s*\\{", "\\bprotected\\b",
             "\\binstanceof\\b", "Exact\\b", "\\bhashCode\\b", "\\bequals\\b", "\\btoString\\b"};
@@ -110,6 +120,37 @@ public final class LanguageTest {
             staticFieldsAreFinal(inside);
         }
         staticFieldsAreFinal(CatalogueSet.class);
+    }
+
+    /** Rules 4 and 6: what is used of a class that is not the file's own. */
+    private static void libraryIsTheListed() throws IOException {
+        Set<String> listed = Set.of("Math.max", "Math.min", "new IllegalStateException",
+            "new IllegalArgumentException", "new IndexOutOfBoundsException");
+        Set<String> own = new TreeSet<>(Set.of("CatalogueSet"));
+        for (Class<?> inside : CatalogueSet.class.getDeclaredClasses()) {
+            own.add(inside.getSimpleName());
+        }
+        Matcher used = Pattern.compile("\\b([A-Z]\\w*[a-z]\\w*)\\.\\w+|\\bnew ([A-Z]\\w*)").matcher(bareSource());
+        while (used.find()) {
+            String type = used.group(1) == null ? used.group(2) : used.group(1);
+            checks.due("whether " + used.group() + " is in the language", true,
+                own.contains(type) || listed.contains(used.group()));
+        }
+    }
+
+    /** Rule 12: a constructor hands out nothing of the object that it makes. */
+    private static void newPartsAreHeldOnce() throws IllegalAccessException {
+        Map<Object, Integer> parts = new IdentityHashMap<>();
+        gather(new CatalogueSet(6, 3), parts);
+        Map<Object, Integer> holders = new IdentityHashMap<>();
+        for (Object part : parts.keySet()) {
+            for (Object held : heldBy(part)) {
+                holders.merge(held, 1, Integer::sum);
+            }
+        }
+        for (Map.Entry<Object, Integer> held : holders.entrySet()) {
+            checks.due("holders of a " + held.getKey().getClass().getSimpleName(), 1, held.getValue());
+        }
     }
 
     private static void staticFieldsAreFinal(Class<?> type) {
@@ -139,33 +180,39 @@ public final class LanguageTest {
         x.run();
         Map<Object, Integer> later = new IdentityHashMap<>();
         gather(x, later);
-        checks.due("objects behind some runs", made.size(), later.size());
+        checks.due("whether there are more objects behind some runs", false, later.size() > made.size());
     }
 
+    /** All objects and arrays that can be reached, each with its fields or elements counted. */
     private static void gather(Object from, Map<Object, Integer> made) throws IllegalAccessException {
-        if (from == null || made.containsKey(from)) {
+        if (made.containsKey(from)) {
             return;
         }
-        if (from.getClass().isArray()) {
-            made.put(from, Array.getLength(from));
-            if (from instanceof Object[] row) {
-                for (Object element : row) {
-                    gather(element, made);
-                }
-            }
-            return;
+        made.put(from, from.getClass().isArray() ? Array.getLength(from) : ownFields(from).size());
+        for (Object held : heldBy(from)) {
+            gather(held, made);
         }
-        int fields = 0;
-        made.put(from, 0);
-        for (Field field : from.getClass().getDeclaredFields()) {
-            if (!Modifier.isStatic(field.getModifiers())) {
-                fields++;
+    }
+
+    private static List<Field> ownFields(Object of) {
+        return Arrays.stream(of.getClass().getDeclaredFields())
+            .filter(field -> !Modifier.isStatic(field.getModifiers())).toList();
+    }
+
+    /** The objects and arrays in its fields or elements. */
+    private static List<Object> heldBy(Object holder) throws IllegalAccessException {
+        List<Object> held = new ArrayList<>();
+        if (holder instanceof Object[] row) {
+            held.addAll(Arrays.asList(row));
+        } else if (!holder.getClass().isArray()) {
+            for (Field field : ownFields(holder)) {
                 field.setAccessible(true);
                 if (!field.getType().isPrimitive()) {
-                    gather(field.get(from), made);
+                    held.add(field.get(holder));
                 }
             }
         }
-        made.put(from, fields);
+        held.removeIf(one -> one == null);
+        return held;
     }
 }

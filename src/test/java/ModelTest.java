@@ -5,11 +5,13 @@ import java.util.Random;
 /** Long runs of calls, made by a seed, each answer compared with the model's. */
 public final class ModelTest {
     private static final int RUNS = 1500;
+    private static final int CHAINS = 1000;
     private static final int CALLS = 511;
 
     private final Checks checks = new Checks("ModelTest");
     private final int[] passesSeen = new int[6];
     private int unsettledSeen = 0;
+    private int settledLastSeen = 0;
     private int lateRefusalsSeen = 0;
     private int unsourcedSeen = 0;
 
@@ -38,12 +40,19 @@ public final class ModelTest {
                 anyCalls();
             }
         }
+        for (; seed <= RUNS + CHAINS; seed++) {
+            dice = new Random(seed);
+            real = new CatalogueSet(6, 3);
+            model = new Model(6, 3);
+            linesAboutTenPages();
+        }
         seenEnough("runs of one pass", passesSeen[1]);
         seenEnough("runs of two passes", passesSeen[2]);
         seenEnough("runs of three passes", passesSeen[3]);
         seenEnough("runs of four passes", passesSeen[4]);
         seenEnough("runs of five passes", passesSeen[5]);
         seenEnough("runs that did not settle", unsettledSeen);
+        seenEnough("runs that settled with the fifth pass", settledLastSeen);
         seenEnough("runs refused behind the first pass", lateRefusalsSeen);
         seenEnough("runs refused for a claim", unsourcedSeen);
         checks.end();
@@ -217,6 +226,37 @@ public final class ModelTest {
         }
     }
 
+    /**
+     * One long entry fills some eight pages; behind it come entries of a line or two, where a
+     * page's second digit makes a line more, which moves the next one's page, and so on.
+     */
+    private void linesAboutTenPages() {
+        put("#0 #0 #0 #0 #0 #0");
+        template();
+        String[] texts = {"aaaa", "aaaa @", "aaaa @", "a@ a@", "a@", "aaa @ @", "@ aaaa @"};
+        for (int t = 1; t < 6; t++) {
+            put(withDigits(texts[dice.nextInt(texts.length)]));
+            template();
+        }
+        entry(0);
+        for (int e = 1; e < 8; e++) {
+            entry(1 + dice.nextInt(5));
+        }
+        put("aaa aaa aaa aaa");
+        field(0, 0);
+        run();
+        picture(1 + dice.nextInt(7), 1);
+        run();
+    }
+
+    private String withDigits(String text) {
+        StringBuilder whole = new StringBuilder();
+        for (int i = 0; i < text.length(); i++) {
+            whole.append(text.charAt(i)).append(text.charAt(i) == '@' ? 1 + dice.nextInt(7) : "");
+        }
+        return whole.toString();
+    }
+
     // ---- one call on both
 
     private void put(String text) {
@@ -266,6 +306,7 @@ public final class ModelTest {
         if (want >= 0) {
             passesSeen[model.about(1)]++;
             unsettledSeen += 1 - model.about(2);
+            settledLastSeen += model.about(1) == 5 ? model.about(2) : 0;
             everythingAsked();
         }
     }

@@ -29,6 +29,7 @@ public final class PromiseTest {
         runDoesNotSettle();
         runPrintsTheLongest();
         runPrintsThreeDigits();
+        runSumsTheGreatestSquares();
         aboutTells();
         pageTells();
         lineTells();
@@ -480,6 +481,22 @@ public final class PromiseTest {
         for (int page = 99; page <= 101; page++) {
             checks.due("whether page " + page + " came", true, seen[page]);
         }
+    }
+
+    /** As many lines as can be that have one sign of 40, each ahead of a word that has 39. */
+    private static void runSumsTheGreatestSquares() {
+        String text = ("a " + "b".repeat(39) + " ").repeat(6).substring(0, 212);
+        CatalogueSet x = Checks.withEntries(40, 30, "#0" + text.substring(32, 42) + "#0#1" + text.substring(106, 116)
+            + "#1#2#3", 8);
+        int[] starts = {0, 74, 148, 180};
+        for (int e = 0; e < 8; e++) {
+            for (int f = 0; f < 4; f++) {
+                Checks.field(x, e, f, text.substring(starts[f], starts[f] + 32));
+            }
+        }
+        checks.due("run", 3, () -> x.run());
+        checks.due("lines", text.trim().replace(' ', '/'), Checks.lines(x, 7));
+        checks.due("squares of lines", 8 * 5 * (39 * 39 + 1), () -> x.about(3));
     }
 
     // ---- promise 10
